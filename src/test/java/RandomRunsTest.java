@@ -66,17 +66,23 @@ public final class RandomRunsTest {
         return random.nextInt(n);
     }
 
+    /** Seldom a number from anywhere. */
+    private int extreme(int otherwise) {
+        int[] ends = {Integer.MIN_VALUE, Integer.MAX_VALUE, Integer.MIN_VALUE + 1, 1 << 16, -1, 32, 33, 64, 128};
+        return any(60) > 0 ? otherwise : any(2) == 0 ? random.nextInt() : ends[any(ends.length)];
+    }
+
     /** Mostly a member that there is. */
     private int someone() {
-        return any(30) == 0 ? any(10) - 2 : any(Math.max(1, x.about(0)));
+        return extreme(any(30) == 0 ? any(10) - 2 : any(Math.max(1, x.about(0))));
     }
 
     private int someSet(int m) {
         if (any(20) == 0) {
-            return any(100) - 10;
+            return extreme(any(100) - 10);
         }
         int everybody = (1 << x.about(0)) - 1;
-        return any(3) == 0 ? everybody : any(64) & everybody | (m >= 0 ? 1 << m : 0);
+        return any(3) == 0 ? everybody : any(64) & everybody | (m >= 0 && m < 6 ? 1 << m : 0);
     }
 
     private String oneCall() {
@@ -84,13 +90,13 @@ public final class RandomRunsTest {
         int m = someone();
         int b = someone();
         int set = someSet(m);
-        int what = any(40) == 0 ? any(20) - 4 : any(12);
+        int what = extreme(any(40) == 0 ? any(20) - 4 : any(12));
         if (kind < 22) {
             return compare("say(" + m + ")", () -> x.say(m), () -> plain.say(m));
         } else if (kind < (style == 2 ? 34 : 28)) {
             return compare("call(" + m + "," + set + ")", () -> x.call(m, set), () -> plain.call(m, set));
         } else if (kind < (style == 3 ? 38 : 44)) {
-            int n = any(30) == 0 ? any(70) - 2 : 1 + any(style == 1 ? 2 : 9);
+            int n = extreme(any(30) == 0 ? any(70) - 2 : 1 + any(style == 1 ? 2 : 9));
             return compare("ticks(" + n + ")", () -> x.ticks(n), () -> plain.ticks(n));
         } else if (kind < 46) {
             boolean cut = any(3) == 0;
@@ -100,15 +106,15 @@ public final class RandomRunsTest {
         } else if (kind < 51) {
             return compare("back(" + m + ")", () -> x.back(m), () -> plain.back(m));
         } else if (kind < 53) {
-            int v = style == 4 ? 1 + any(6) : any(3) == 0 ? 0 : any(44) - 1;
+            int v = extreme(style == 4 ? 1 + any(6) : any(3) == 0 ? 0 : any(44) - 1);
             return compare("set(" + v + ")", () -> x.set(v), () -> plain.set(v));
         } else if (kind < 56) {
             return compare("undo()", x::undo, plain::undo);
         } else if (kind < 57) {
-            int place = any(12) - 1;
+            int place = extreme(any(12) - 1);
             return compare("member(" + place + ")", () -> x.member(place), () -> plain.member(place));
         } else if (kind < 64) {
-            int w = any(20) == 0 ? any(5) - 1 : any(2);
+            int w = extreme(any(20) == 0 ? any(5) - 1 : any(2));
             return compare("standsIn(" + m + "," + set + "," + w + ")", () -> x.standsIn(m, set, w),
                 () -> plain.standsIn(m, set, w));
         }
@@ -121,18 +127,18 @@ public final class RandomRunsTest {
         } else if (kind < 75) {
             return compare("memberOf(" + m + "," + what + ")", () -> x.memberOf(m, what), () -> plain.memberOf(m, what));
         } else if (kind < 79) {
-            int k = any(7) - 1;
-            int w = any(5) - 1;
+            int k = extreme(any(7) - 1);
+            int w = extreme(any(5) - 1);
             return compare("session(" + m + "," + k + "," + w + ")", () -> x.session(m, k, w),
                 () -> plain.session(m, k, w));
         } else if (kind < 83) {
-            int k = any(x.about(2) + 2) - 1;
-            int w = any(8) - 1;
+            int k = extreme(any(x.about(2) + 2) - 1);
+            int w = extreme(any(8) - 1);
             return compare("note(" + k + "," + w + ")", () -> x.note(k, w), () -> plain.note(k, w));
         } else if (kind < 84) {
             return compare("isCut(" + m + "," + b + ")", () -> x.isCut(m, b), () -> plain.isCut(m, b));
         } else if (kind < 87) {
-            int w = any(20) == 0 ? any(5) - 1 : any(2);
+            int w = extreme(any(20) == 0 ? any(5) - 1 : any(2));
             return compare("compare(" + m + "," + b + "," + w + ")", () -> x.compare(m, b, w),
                 () -> plain.compare(m, b, w));
         } else if (kind < 90) {
@@ -140,19 +146,20 @@ public final class RandomRunsTest {
         } else if (kind < 92) {
             return compare("together()", x::together, plain::together);
         } else if (kind < 94) {
-            int n = any(20) == 0 ? any(6) - 1 : 1 + any(3);
-            long script = someScript(n);
+            int count = any(20) == 0 ? any(6) - 1 : 1 + any(3);
+            int n = extreme(count);
+            long script = any(60) == 0 ? random.nextLong() : someScript(count);
             return compare("runScript(" + n + "," + script + ")", () -> x.runScript(n, script),
                 () -> plain.runScript(n, script));
         } else if (kind < 96) {
             long seed = random.nextLong();
-            int n = any(20) == 0 ? any(70) - 5 : 1 + any(60);
+            int n = extreme(any(20) == 0 ? any(70) - 5 : 1 + any(60));
             return compare("simulate(" + seed + "," + n + ")", () -> x.simulate(seed, n), () -> plain.simulate(seed, n));
         } else if (kind < 97) {
-            int slot = any(8) == 0 ? any(5) - 2 : any(2);
+            int slot = extreme(any(8) == 0 ? any(5) - 2 : any(2));
             return compare("save(" + slot + ")", () -> x.save(slot), () -> plain.save(slot));
         } else if (kind < 98) {
-            int slot = any(8) == 0 ? any(5) - 2 : any(2);
+            int slot = extreme(any(8) == 0 ? any(5) - 2 : any(2));
             return any(4) > 0 ? "" : compare("restore(" + slot + ")", () -> x.restore(slot), () -> plain.restore(slot));
         }
         return style == 5 ? someText() : everything();
