@@ -26,6 +26,8 @@ public final class ActionsTest {
         ticksRefuse();
         undoTakesBackEachAction();
         undoTakesBackWhatIsHidden();
+        undoTakesBackWhatIsTold();
+        undoTakesBackTheCountOfWays();
         undoRemembersFourteen();
         undoRefuses();
         aRefusedCallChangesNothing();
@@ -268,8 +270,8 @@ public final class ActionsTest {
 
     /** What no method tells (answers, since when a roll is called, what is kept) comes back as well. */
     private static void undoTakesBackWhatIsHidden() {
-        undoTakesBackWhatIsHidden("m0m0m3s0s1c007p09t03");
-        undoTakesBackWhatIsHidden("m0m0m3s0s1c007p05t03");
+        undoTakesBackWhatIsHidden("t02m0m0m3s0s1c007p09t03");
+        undoTakesBackWhatIsHidden("t02m0m0m3s0s1c007p05t03");
     }
 
     private static void undoTakesBackWhatIsHidden(String club) {
@@ -277,8 +279,11 @@ public final class ActionsTest {
         ClubRolls y = Checks.club(club);
         x.call(0, 3);
         x.ticks(60);
-        x.undo();
-        x.undo();
+        x.call(0, 7);
+        x.ticks(1);
+        for (int i = 0; i < 4; i++) {
+            x.undo();
+        }
         for (int i = 0; i < 20; i++) {
             Checks.due("the ticks go on as if nothing was done", x.ticks(1), y.ticks(1));
             Checks.same("tick " + i, Checks.all(x), Checks.all(y));
@@ -286,6 +291,45 @@ public final class ActionsTest {
         x.clearText();
         x.undo();
         Checks.due("the text is no part of the state", x.clearText(), 0);
+    }
+
+    /** The callers of sessions, and the speeches that are kept as a roll is not told. */
+    private static void undoTakesBackWhatIsTold() {
+        ClubRolls x = Checks.club("m0m0m0c007t01x01t01t01s2s2t01");
+        Checks.due("kept by 1", x.memberOf(1, 10), 2);
+        x.call(2, 6);
+        x.ticks(3);
+        Checks.due("kept by 1, told of the roll 2 of 2", x.memberOf(1, 10), 0);
+        x.call(1, 2);
+        x.call(1, 6);
+        x.ticks(3);
+        x.call(2, 4);
+        int[] callers = {2, 0, 2, 1};
+        for (int k = 0; k < 4; k++) {
+            Checks.due("the caller of the session " + k, x.session(2, k, 1), callers[k]);
+        }
+        String before = Checks.all(x);
+        for (int i = 0; i < 5; i++) {
+            x.call(2, 4);
+        }
+        Checks.due("all callers are forgotten", x.session(2, 0, 1) * 10 + x.session(2, 4, 1), 22);
+        for (int i = 0; i < 5; i++) {
+            x.undo();
+        }
+        Checks.same("the callers of sessions", Checks.all(x), before);
+        for (int i = 0; i < 6; i++) {
+            x.undo();
+        }
+        Checks.due("kept by 1", x.memberOf(1, 10), 2);
+    }
+
+    private static void undoTakesBackTheCountOfWays() {
+        ClubRolls x = Checks.club("m0m0m0x01");
+        for (int i = 0; i < 3; i++) {
+            Checks.due("cut(1, 2, true)", x.cut(1, 2, true), 2);
+            x.undo();
+        }
+        Checks.due("cut(0, 1, false)", x.cut(0, 1, false), 0);
     }
 
     private static void undoRemembersFourteen() {

@@ -20,6 +20,7 @@ public final class RollsTest {
         anAnswerTellsWhatWasHeardThen();
         unlikeRollsAreToldUnlikeSets();
         likeRollsAreToldTogether();
+        rollsOfOneCallerAreTold();
         aRollThatStandsTooLateIsNothing();
         notesOfOneTickComeAsSent();
         outOfPatienceTheRollIsCalledAnew();
@@ -251,6 +252,7 @@ public final class RollsTest {
         x.ticks(60);
         Checks.due("the roll of 0 stood, and the one of 1 did not", x.about(6), 2);
         member(x, "2 has answered and is not told", 2, 1, 1);
+        member(x, "its answer, which comes when 1 calls no more, does not count", 1, 9, 0);
         ClubRolls y = Checks.club("m0m0m9c106c003t02");
         member(y, "a call with the number of one's own call", 1, 8, 6);
         member(y, "the other caller waits too", 0, 9, 1);
@@ -312,6 +314,14 @@ public final class RollsTest {
         member(x, "all in the new roll", 2, 3, 0);
         member(x, "nothing is heard in it", 0, 5, 0);
         member(x, "no speech is made in it", 0, 7, 0);
+    }
+
+    /** 1 stays in the roll 1 of 0, who is in the roll 2 of its own: they are not told of each other's speeches. */
+    private static void rollsOfOneCallerAreTold() {
+        ClubRolls x = Checks.club("m0m0c003t03c001s1s0s0t01c003t02");
+        Checks.due("told to the caller", x.session(0, 2, 2), 3);
+        Checks.due("the roll of that session", x.session(0, 2, 0), 2);
+        Checks.due("told to 1", x.note(0, 5), 16);
     }
 
     private static void aRollThatStandsTooLateIsNothing() {

@@ -127,6 +127,8 @@ public final class ScriptsTest {
         int[] counts = {0, 4, -1, Integer.MIN_VALUE, Integer.MAX_VALUE};
         for (int n : counts) {
             Checks.wrong("runScript(" + n + ", 10000)", () -> x.runScript(n, 10000));
+            Checks.wrong("runScript(" + n + ", 0)", () -> x.runScript(n, 0));
+            Checks.wrong("runScript(" + n + ", -1)", () -> x.runScript(n, -1));
         }
         long[] scripts = {-1, Long.MIN_VALUE, Long.MAX_VALUE, -10000};
         for (int n = 1; n <= 3; n++) {

@@ -219,7 +219,7 @@ public final class WouldTest {
     }
 
     private static void lacksLooksAtTheRollNow() {
-        ClubRolls x = Checks.club("m0m3c003t08s0");
+        ClubRolls x = Checks.club("m0m3s1c003t08s0");
         lacks(x, "1 is not told of the roll yet", 0, 0);
         x.ticks(4);
         lacks(x, "1 is told", 0, 0);
