@@ -380,6 +380,12 @@ final class BoundsOfTerms {
         x = Checks.club("m0m0c003t01c001t01");
         Bounds.about(x, "none is called any more: only the roll of 0 alone stood", 6, 1);
         Bounds.member(x, "none is called any more", 0, 9, 0);
+        x = Checks.club("m0m3m0c003t04c204c205t01");
+        Bounds.member(x, "a greater call came, and ends its own", 0, 8, 0);
+        Bounds.about(x, "the answer to that is under way still", 2, 2);
+        x.ticks(60);
+        Bounds.member(x, "it does not count", 0, 9, 0);
+        Bounds.member(x, "nor did its own roll stand", 0, 3, 2);
     }
 
     private static void theLastAnswerMakesItStand() {
@@ -447,11 +453,18 @@ final class BoundsOfTerms {
     private static void fiveSessionsAreRemembered() {
         Document.terms("the latest 5 of each member.");
         ClubRolls x = Checks.club("m0m0");
+        int[] said = {4, 1, 0, 3, 2, 1, 4};
         for (int over = 1; over <= 7; over++) {
+            for (int i = 0; i < said[over - 1]; i++) {
+                x.say(0);
+            }
             x.call(0, 1);
+            for (int k = 0; k < Math.min(over, 5); k++) {
+                int number = Math.max(over - 5, 0) + k;
+                Checks.due("the number of the session " + k, x.session(0, k, 0), number);
+                Checks.due("what was heard in it", x.session(0, k, 2), (1 << said[number]) - 1);
+            }
             Bounds.member(x, "sessions that are over: " + over, 0, 11, Math.min(over, 5));
-            Checks.due("the oldest one is of the roll", x.session(0, 0, 0), Math.max(over - 5, 0));
-            Checks.due("the latest one is of the roll", x.session(0, Math.min(over, 5) - 1, 0), over - 1);
         }
         Bounds.member(x, "the other one's", 1, 11, 0);
         x.leave(0);

@@ -216,8 +216,9 @@ final class BoundsOfWhatWouldBe {
         for (int m = 0; m < 4; m++) {
             Checks.due("lacks(5), one more is back", x.lacks(5), 1);
             x.back(m);
+            x.say(m);
         }
-        Checks.due("lacks(5), of none", x.lacks(5), 0);
+        Checks.due("lacks(5), of none, though the others speak in rolls of their own", x.lacks(5), 0);
     }
 
     private static void lacksOfWhatIsNoMember() {
