@@ -1,14 +1,22 @@
 import java.io.IOException;
+import java.io.PrintWriter;
+import java.io.StringWriter;
 import java.lang.management.ManagementFactory;
 import java.lang.reflect.Field;
 import java.lang.reflect.Method;
 import java.lang.reflect.Modifier;
 import java.nio.file.Files;
 import java.nio.file.Path;
+import java.util.ArrayList;
 import java.util.Arrays;
+import java.util.List;
+import java.util.Map;
+import java.util.Set;
+import java.util.TreeMap;
 import java.util.TreeSet;
 import java.util.regex.Matcher;
 import java.util.regex.Pattern;
+import java.util.spi.ToolProvider;
 
 /** Rules of LANGUAGE.md that can be looked at from outside: the face, words that are ruled out, and what is made. */
 public final class LanguageTest {
@@ -38,6 +46,8 @@ public final class LanguageTest {
         String code = codeAlone(Files.readString(SOURCE));
         noWordIsRuledOut(code);
         onlyLibraryOfTheList(code);
+        methodsAreShort(code);
+        callsGoEightDeepAtMost();
         callsMakeNothing();
         Checks.end("LanguageTest");
     }
@@ -131,6 +141,77 @@ public final class LanguageTest {
         }
         got.removeAll(Arrays.asList("Math.min", "Math.max", "Math.abs", "Integer.bitCount", "System.arraycopy"));
         Checks.same("library outside what is used so far", String.join(" ", got), "");
+    }
+
+    /** By the way the code is laid out: a method ends at the next closing brace that stands as far in as it begins. */
+    private static void methodsAreShort(String code) {
+        String[] lines = code.split("\n");
+        int methods = 0;
+        for (int i = 0; i < lines.length; i++) {
+            Matcher head = Pattern.compile("( {4}| {8})\\w.*\\) ?(throws [\\w, ]+)?\\{").matcher(lines[i]);
+            if (!head.matches()) {
+                continue;
+            }
+            methods++;
+            int end = i;
+            while (end < lines.length - 1 && !lines[end].equals(head.group(1) + "}")) {
+                end++;
+            }
+            Checks.note(end - i < 60, "a method of more than 60 lines: " + lines[i]);
+        }
+        Checks.note(methods > 26, "only " + methods + " methods are found");
+    }
+
+    /** The calls of methods of the file by one another, as the compiled classes have them; none calls itself. */
+    private static void callsGoEightDeepAtMost() {
+        ToolProvider javap = ToolProvider.findFirst("javap").orElse(null);
+        if (javap == null) {
+            System.out.println("there is no javap here: how deep calls go is not looked at");
+            return;
+        }
+        Map<String, Set<String>> calls = new TreeMap<>();
+        for (String told : disassembled(javap).split("(?m)^Compiled from .*\n")) {
+            Matcher ofClass = Pattern.compile("class (\\S+) \\{").matcher(told);
+            String owner = ofClass.find() ? ofClass.group(1) : "";
+            String caller = "";
+            for (String line : told.split("\n")) {
+                Matcher head = Pattern.compile("  \\S.*?([\\w$]+)\\(.*\\).*;").matcher(line);
+                Matcher call = Pattern.compile(".*// Method ([\\w$]+\\.)?\"?([\\w<>]+)\"?:.*").matcher(line);
+                if (head.matches()) {
+                    caller = owner + "." + (head.group(1).equals(owner) ? "<init>" : head.group(1));
+                    calls.computeIfAbsent(caller, c -> new TreeSet<>());
+                } else if (call.matches()) {
+                    calls.get(caller).add((call.group(1) == null ? owner + "." : call.group(1)) + call.group(2));
+                }
+            }
+        }
+        Checks.note(calls.containsKey("ClubRolls.simulate"), "simulate is not among " + calls.keySet());
+        for (String method : calls.keySet()) {
+            int deep = depth(method, calls, 1);
+            Checks.note(deep <= 8, method + " goes " + deep + " calls deep");
+        }
+    }
+
+    private static int depth(String method, Map<String, Set<String>> calls, int above) {
+        int deepest = above;
+        for (String called : calls.getOrDefault(method, Set.of())) {
+            // A method that calls itself would never come to an end: some twenty are enough to tell it.
+            deepest = above > 20 ? above : Math.max(deepest, depth(called, calls, above + 1));
+        }
+        return deepest;
+    }
+
+    private static String disassembled(ToolProvider javap) {
+        List<String> args = new ArrayList<>(List.of("-p", "-c"));
+        List<Class<?>> classes = new ArrayList<>(List.of(ClubRolls.class.getDeclaredClasses()));
+        classes.add(ClubRolls.class);
+        for (Class<?> one : classes) {
+            args.add(ClubRolls.class.getResource(one.getName() + ".class").toString());
+        }
+        StringWriter told = new StringWriter();
+        PrintWriter into = new PrintWriter(told);
+        javap.run(into, into, args.toArray(new String[0]));
+        return told.toString();
     }
 
     /** All room is made in the constructor: so no run of calls can fill the room, however long it is. */
